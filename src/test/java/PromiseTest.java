@@ -250,6 +250,13 @@ public final class PromiseTest {
         tellsDue("bounds 0 1 1 ", -23);
         tellsDue("bounds 0 1 1 1 bounds 0 1 1 1;", -25);
         tellsDue("bound 0 1 1 1;", -10);
+        tellsDue("copiesa 2;", -10);
+        tellsDue("copiesz 2;", -10);
+        tellsDue("zopies 2;", -10);
+        tellsDue("copies`2;", -16);
+        tellsDue("copies{2;", -16);
+        tellsDue("copies/2;", -16);
+        tellsDue("copies:2;", -16);
         tellsDue("boundss 0 1 1 1;", -10);
         tellsDue("bounds 0 1 1 1;x", -25);
         tellsDue("Copies 2;", -10);
@@ -523,6 +530,8 @@ public final class PromiseTest {
         due("pair(2, 0, 0)", x.pair(2, 0, 0), 0);
         due("bounds(0, 12, 9, 99)", x.bounds(0, 12, 9, 99), 1);
         due("copy(0, 4)", x.copy(0, 4), 1);
+        due("bounds(3, 0, 0, 0)", x.bounds(3, 0, 0, 0), 1);
+        due("pair(3, 1, 3)", x.pair(3, 1, 3), 0);
         due("bounds(0, 99, 9, 99): less strict, too", x.bounds(0, 99, 9, 99), 0);
         due("pair(0, 1, 1)", x.pair(0, 1, 1), 33);
     }
