@@ -17,7 +17,10 @@ public final class RefusedEdgeTest {
         for (int n = 2; n <= 4; n++) {
             everyBadCall(n);
             lastCopies(n);
-            fullOfAll(n);
+            everyState(n);
+            everyQuestion(n);
+            fullOfAll(n, busy(n));
+            fullOfAll(n, unkept(n));
         }
         badMoves();
         badAheadOfState();
@@ -25,10 +28,23 @@ public final class RefusedEdgeTest {
         script.end();
     }
 
+    /** All has something in it, and nothing is alike; no image is kept. What was seen is so of COPY 0. */
+    private static String[] unkept(int n) {
+        return new String[] {"say:copies " + n + ";bounds 1 20 1 2;bounds 0 40 9 0;", "tells = 3", "passes 1", "accepts 1 2",
+            "passes 5", "accepts 0 4", "pulls 1 0", "evens 0", "accepts 0 1", "bounds 1 21 1 2", "reads 0", "passes 2",
+            "accepts 1 3", "sees 1 0", "sees 1 0", "say:bounds 1 98 7 65;"};
+    }
+
     private static String[] busy(int n) {
-        return new String[] {"say:copies " + n + ";bounds 1 20 1 2;bounds 0 40 9 0;", "tells = 3", "accepts 1 2", "keep 1",
-            "passes 5", "accepts 0 4", "keep 0", "pulls 1 0", "evens 0", "accepts 0 1", "bounds 1 21 1 2", "reads 0",
-            "passes 2", "accepts 1 3", "sees 0 10", "sees 1 0", "say:bounds 1 98 7 65;"};
+        return new String[] {"say:copies " + n + ";bounds 1 20 1 2;bounds 0 40 9 0;", "tells = 3", "passes 1", "accepts 1 2",
+            "keep 1", "passes 5", "accepts 0 4", "keep 0", "pulls 1 0", "evens 0", "accepts 0 1", "bounds 1 21 1 2",
+            "reads 0", "passes 2", "accepts 1 3", "sees 1 0", "sees 1 0", "say:bounds 1 98 7 65;"};
+    }
+
+    /** As many as there may be of all: TIME, letters, WRITES, what was seen, what can be undone. */
+    private static String[] full(String[] ahead) {
+        return Script.join(ahead, "10 x passes 99", "passes 99", "passes 1 = 999", "passes 1", "20 x accepts 0 1",
+                "63 x type 32", "count 6 = 80", "3 x sees 1 0", "sees 1 0 = 6", "bounds 1 97 9 99");
     }
 
     private static String with(String call, int n) {
@@ -40,6 +56,7 @@ public final class RefusedEdgeTest {
                 + "is no such thing), STATE (as told), FULL.");
         for (String call : BAD_CALLS) {
             script.unchanged(busy(n), with(call, n) + " = BAD");
+            script.unchanged(unkept(n), with(call, n) + " = BAD");
             script.unchanged(new String[] {"say:copies " + n + ";", "tells"}, with(call, n) + " = BAD");
         }
     }
@@ -56,17 +73,42 @@ public final class RefusedEdgeTest {
                 "write 0 0 = " + last, "write 0 3 = " + (1 | 1 << n - 1), "which = " + ((1 << n) - 1)));
     }
 
-    private static void fullOfAll(int n) {
+    private static void fullOfAll(int n, String[] ahead) {
         script.sentence("Refused, and nothing changes, the first of these that is so: BAD (a number is not as told, or there "
                 + "is no such thing), STATE (as told), FULL.");
-        String[] full = Script.join(busy(n), "10 x passes 99", "passes 99", "passes 2", "passes 1", "20 x accepts 0 1",
-                "63 x type 32", "4 x sees 0 99", "bounds 1 97 9 99");
+        String[] full = full(ahead);
         script.unchangedEach(full, "type 32 = FULL", "type 0 = FULL", "accepts 0 1 = FULL", "accepts 1 9 = FULL",
                 "passes 99 = STATE", "passes 10 = STATE", "sees 0 0 = FULL", "sees 2 999 = FULL",
                 "bounds 1 97 9 99 = STATE");
         for (String call : BAD_CALLS) {
             script.unchanged(full, with(call, n) + " = BAD");
         }
+    }
+
+    private static void everyQuestion(int n) {
+        script.sentence("(Nothing is changed.)");
+        for (String[] ahead : new String[][] {busy(n), unkept(n)}) {
+            script.asked(ahead, Script.questions(n, 4).toArray(new String[0]));
+            script.asked(Script.join(ahead, "sees 0 7", "which = 1"), "ask = NONE", "which = 1");
+        }
+    }
+
+    private static void everyState(int n) {
+        script.sentence("STATE (as told)");
+        for (String[] ahead : new String[][] {busy(n), unkept(n)}) {
+            script.unchangedEach(ahead, "bounds 1 21 1 2 = STATE", "bounds 0 40 9 0 = STATE");
+            if (n > 2) {
+                script.unchangedEach(ahead, "moves 1 0 2 99 = STATE", "moves 0 2 1 99 = STATE");
+            }
+            script.unchanged(Script.join(ahead, "7 x undo", "undo = 0"), "undo = STATE");
+            script.unchanged(Script.join(ahead, "say:?"), "tells = -27");
+            script.unchanged(Script.join(ahead, "say: bounds"), "tells = -34");
+        }
+        script.unchangedEach(unkept(n), "back 0 = STATE", "back 1 = STATE");
+        script.unchangedEach(full(unkept(n)), "back 0 = STATE", "back 1 = STATE");
+        script.unchanged(Script.join(unkept(n), "keep 1", "passes 1"), "back 0 = STATE");
+        script.unchanged(Script.join(unkept(n), "keep 0", "passes 1"), "back 1 = STATE");
+        script.unchanged(Script.join(busy(n), "back 0"), "undo = STATE");
     }
 
     private static void badMoves() {

@@ -24,6 +24,8 @@ final class Script {
         {"6 x undo"}, {"7 x undo"}, {"8 x undo"}, {"9 x undo"}, {"back 0"}, {"back 1"}, {"tells"}, {"type 59", "tells"},
         {"clear"}, {"forget"}, {"passes 1"}, {"passes 99"}, {"accepts 0 9"}, {"evens 0", "undo"}};
 
+    private static final String[][] LATER = {{}, {"undo"}, {"8 x undo"}, {"back 0"}, {"back 1"}, {"tells"}};
+
     private final Map<String, Method> methods = new HashMap<>();
     private final String document;
     private String sentence = "";
@@ -147,6 +149,59 @@ final class Script {
         }
     }
 
+    /**
+     * The question, and each in its turn of those that would show a change, on an object of its own: were they asked
+     * one behind the other, what each of them changes would stand in both pictures and not show.
+     */
+    void asked(String[] ahead, String... questions) {
+        String[] want = new String[LATER.length];
+        for (int i = 0; i < want.length; i++) {
+            want[i] = eachAlone(join(ahead, LATER[i]));
+        }
+        for (String question : questions) {
+            String[] with = join(ahead, question);
+            run(with);
+            for (int i = 0; i < want.length; i++) {
+                check(eachAlone(join(with, LATER[i])).equals(want[i]), question + " changed what shows behind "
+                        + Arrays.toString(LATER[i]) + ", in " + Arrays.toString(ahead));
+            }
+        }
+    }
+
+    private String eachAlone(String[] rows) {
+        StringBuilder all = new StringBuilder();
+        StaleBounds first = again(rows);
+        for (String question : questions(first.count(0), first.count(2))) {
+            all.append(answer(again(rows), question)).append(' ');
+        }
+        return all.toString();
+    }
+
+    static List<String> questions(int copies, int writes) {
+        List<String> all = new ArrayList<>(List.of("which", "ask"));
+        for (int what = 0; what < 8; what++) {
+            all.add("count " + what);
+        }
+        for (int a = 0; a < copies; a++) {
+            for (int what = 0; what < 10; what++) {
+                all.add("copy " + a + " " + what);
+            }
+            for (int c = 0; c < copies; c++) {
+                for (int what = 0; what < 4 && c != a; what++) {
+                    all.add("pair " + a + " " + c + " " + what);
+                }
+            }
+            all.add("costs " + a + " 1");
+            all.add("costs " + a + " 999");
+        }
+        for (int w = 0; w < writes; w++) {
+            for (int what = 0; what < 5; what++) {
+                all.add("write " + w + " " + what);
+            }
+        }
+        return all;
+    }
+
     void unchangedEach(String[] ahead, String... calls) {
         for (String call : calls) {
             unchanged(ahead, call);
@@ -200,7 +255,7 @@ final class Script {
                 all.append(x.copy(a, what)).append(' ');
             }
             for (int c = 0; c < x.count(0); c++) {
-                for (int what = 0; what < 4; what++) {
+                for (int what = 0; what < 4 && c != a; what++) {
                     all.append(x.pair(a, c, what)).append(' ');
                 }
             }
