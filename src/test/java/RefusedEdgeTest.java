@@ -1,3 +1,6 @@
+import java.util.ArrayList;
+import java.util.List;
+
 /** Whatever is refused changes nothing, and BAD goes ahead of STATE, STATE ahead of FULL: in states of all sizes. */
 public final class RefusedEdgeTest {
     private static final Script script = new Script();
@@ -41,10 +44,13 @@ public final class RefusedEdgeTest {
             "reads 0", "passes 2", "accepts 1 3", "sees 1 0", "sees 1 0", "say:bounds 1 98 7 65;"};
     }
 
-    /** As many as there may be of all: TIME, letters, WRITES, what was seen, what can be undone. */
-    private static String[] full(String[] ahead) {
-        return Script.join(ahead, "10 x passes 99", "passes 99", "passes 1 = 999", "passes 1", "20 x accepts 0 1",
-                "63 x type 32", "count 6 = 80", "3 x sees 1 0", "sees 1 0 = 6", "bounds 1 97 9 99");
+    /**
+     * As many as there may be of all: TIME, letters, WRITES, what was seen, what can be undone. No call in it is refused:
+     * what that one changed would not show in the next.
+     */
+    private static String[] full(String[] ahead, int lastLetter) {
+        return Script.join(ahead, "10 x passes 99", "passes 1 = 999", "19 x accepts 0 1", "accepts 0 1", "count 2 = 24",
+                "62 x type 32", "type " + lastLetter + " = 80", "3 x sees 1 0", "sees 1 0 = 6", "bounds 1 97 9 99");
     }
 
     private static String with(String call, int n) {
@@ -76,10 +82,13 @@ public final class RefusedEdgeTest {
     private static void fullOfAll(int n, String[] ahead) {
         script.sentence("Refused, and nothing changes, the first of these that is so: BAD (a number is not as told, or there "
                 + "is no such thing), STATE (as told), FULL.");
-        String[] full = full(ahead);
+        String[] full = full(ahead, 32);
         script.unchangedEach(full, "type 32 = FULL", "type 0 = FULL", "accepts 0 1 = FULL", "accepts 1 9 = FULL",
                 "passes 99 = STATE", "passes 10 = STATE", "sees 0 0 = FULL", "sees 2 999 = FULL",
                 "bounds 1 97 9 99 = STATE");
+        if (n > 2) {
+            script.unchanged(full, "moves 1 0 2 99 = STATE");
+        }
         for (String call : BAD_CALLS) {
             script.unchanged(full, with(call, n) + " = BAD");
         }
@@ -91,6 +100,23 @@ public final class RefusedEdgeTest {
             script.asked(ahead, Script.questions(n, 4).toArray(new String[0]));
             script.asked(Script.join(ahead, "sees 0 7", "which = 1"), "ask = NONE", "which = 1");
         }
+        script.asked(full(busy(n), 32), questionsOfEachKind(n - 1));
+        script.asked(Script.join(full(busy(n), 32), "forget", "5 x sees 0 7", "sees 1 1 = 6", "which = 0"), "ask = NONE");
+    }
+
+    private static String[] questionsOfEachKind(int copy) {
+        List<String> all = new ArrayList<>(List.of("which", "ask", "costs " + copy + " 1"));
+        for (int what = 0; what < 10; what++) {
+            all.add("copy " + copy + " " + what);
+        }
+        for (int what = 0; what < 8; what++) {
+            all.add("count " + what);
+        }
+        for (int what = 0; what < 5; what++) {
+            all.add("write 23 " + what);
+            all.add("pair 0 " + copy + " " + what);
+        }
+        return all.toArray(new String[0]);
     }
 
     private static void everyState(int n) {
@@ -101,11 +127,14 @@ public final class RefusedEdgeTest {
                 script.unchangedEach(ahead, "moves 1 0 2 99 = STATE", "moves 0 2 1 99 = STATE");
             }
             script.unchanged(Script.join(ahead, "7 x undo", "undo = 0"), "undo = STATE");
+            script.unchanged(Script.join(ahead, "keep 1", "back 1"), "undo = STATE");
+            script.unchanged(Script.join(full(ahead, 32), "keep 0", "back 0"), "undo = STATE");
             script.unchanged(Script.join(ahead, "say:?"), "tells = -27");
             script.unchanged(Script.join(ahead, "say: bounds"), "tells = -34");
+            script.unchanged(full(ahead, 63), "tells = -89");
         }
         script.unchangedEach(unkept(n), "back 0 = STATE", "back 1 = STATE");
-        script.unchangedEach(full(unkept(n)), "back 0 = STATE", "back 1 = STATE");
+        script.unchangedEach(full(unkept(n), 32), "back 0 = STATE", "back 1 = STATE");
         script.unchanged(Script.join(unkept(n), "keep 1", "passes 1"), "back 0 = STATE");
         script.unchanged(Script.join(unkept(n), "keep 0", "passes 1"), "back 1 = STATE");
         script.unchanged(Script.join(busy(n), "back 0"), "undo = STATE");

@@ -70,8 +70,9 @@ final class Script {
         asked++;
         if (!so) {
             wrong++;
-            if (wrong <= MOST_COMPLAINTS) {
-                System.out.println("'" + sentence + "': " + complaint);
+            System.out.println("'" + sentence + "': " + complaint);
+            if (wrong >= MOST_COMPLAINTS) {
+                end();
             }
         }
     }
