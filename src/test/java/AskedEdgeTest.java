@@ -27,6 +27,7 @@ public final class AskedEdgeTest {
         askOfTheseAlone();
         keepEdges();
         keepsAll();
+        keepsTheLastWrite();
         backEdges();
         backAndUndo();
         countEdges();
@@ -218,6 +219,9 @@ public final class AskedEdgeTest {
                 "which = 0", "ask = NONE");
         script.run("accepts 1 1", "sees 0 0", "which = 5", "ask = 0", "accepts 2 1", "which = 1", "ask = NONE", "undo",
                 "ask = 0", "forget", "ask = 0");
+        script.unchanged(new String[] {"accepts 1 1", "sees 0 1", "which = 2"}, "ask = NONE");
+        script.unchanged(new String[] {"accepts 1 1", "sees 0 7", "which = 0"}, "ask = NONE");
+        script.unchanged(new String[] {"sees 0 7", "which = 0"}, "ask = NONE");
     }
 
     private static void askLeast() {
@@ -266,6 +270,17 @@ public final class AskedEdgeTest {
             script.run(Script.join(kept, "back " + image, "count 5 = 2", "count 6 = 10", "count 7 = 0", "clear = 10"));
         }
         script.alike(Script.join(BUSY, "keep 0", "count 7 = 7"), BUSY);
+    }
+
+    /** The last WRITE that there may be is another one meanwhile. */
+    private static void keepsTheLastWrite() {
+        script.sentence("IMAGES 0, 1 keep all that 1 tells but THE TEXT");
+        for (String image : new String[] {"0", "1"}) {
+            script.run("23 x accepts 0 1", "passes 3", "accepts 1 5", "keep " + image + " = 3", "undo", "passes 4",
+                    "accepts 2 7", "write 23 0 = 2", "write 23 1 = 7", "write 23 2 = 7", "back " + image + " = 3",
+                    "write 23 0 = 1", "write 23 1 = 5", "write 23 2 = 3", "count 3 = 28", "copy 1 3 = 8388608",
+                    "copy 2 3 = 0", "accepts 0 1 = FULL");
+        }
     }
 
     private static void backEdges() {

@@ -24,6 +24,7 @@ public final class RefusedEdgeTest {
             everyQuestion(n);
             fullOfAll(n, busy(n));
             fullOfAll(n, unkept(n));
+            fullAndFewUndone(n);
         }
         badMoves();
         badAheadOfState();
@@ -92,6 +93,21 @@ public final class RefusedEdgeTest {
         for (String call : BAD_CALLS) {
             script.unchanged(full, with(call, n) + " = BAD");
         }
+    }
+
+    /** Where all that can be undone is known, one more of it would not show. */
+    private static void fullAndFewUndone(int n) {
+        script.sentence("Refused, and nothing changes");
+        String[] none = Script.join(full(busy(n), 32), "keep 0", "back 0 = 999", "count 7 = 0");
+        String[] some = Script.join(full(busy(n), 32), "undo = 7", "count 2 = 24");
+        for (String[] ahead : new String[][] {none, some}) {
+            script.unchangedEach(ahead, "type 32 = FULL", "accepts 0 1 = FULL", "passes 1 = STATE", "sees 0 0 = FULL");
+            if (n > 2) {
+                script.unchanged(ahead, "moves 1 0 2 99 = STATE");
+            }
+        }
+        script.unchanged(none, "bounds 1 97 9 99 = STATE");
+        script.unchanged(some, "bounds 1 21 1 2 = STATE");
     }
 
     private static void everyQuestion(int n) {
