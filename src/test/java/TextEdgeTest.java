@@ -299,6 +299,11 @@ public final class TextEdgeTest {
         fault(" ".repeat(79) + ";", 79);
         fault(" ".repeat(79) + "a", 79);
         fault(" ".repeat(79) + "0", 79);
+        fault(";".repeat(79) + "0", 0);
+        fault("0;".repeat(40), 0);
+        fault("?".repeat(80), 0);
+        fault("0".repeat(80), 0);
+        fault("a".repeat(80), 0);
     }
 
     private static void endsTooEarly() {
